@@ -1,0 +1,44 @@
+/** Compares answers with those that are due, prints the wrong ones, and ends the test. */
+final class Due {
+    private final String test;
+    private String part = "";
+    private int asked = 0;
+    private int wrong = 0;
+
+    Due(String test) {
+        this.test = test;
+    }
+
+    /** Names the part of the test that the next answers belong to. */
+    void part(String name) {
+        part = name;
+    }
+
+    void is(String call, long got, long want) {
+        asked++;
+        if (got != want) {
+            wrong++;
+            System.out.println(test + ", " + part + ": " + call + " answered " + got
+                    + ", due is " + want);
+        }
+    }
+
+    void holds(String what, boolean is) {
+        asked++;
+        if (!is) {
+            wrong++;
+            System.out.println(test + ", " + part + ": " + what + " does not hold");
+        }
+    }
+
+    boolean isWrong() {
+        return wrong != 0;
+    }
+
+    void end() {
+        System.out.println(test + ": " + asked + " answers, " + wrong + " wrong");
+        if (wrong != 0) {
+            System.exit(1);
+        }
+    }
+}

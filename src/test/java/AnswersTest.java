@@ -122,6 +122,15 @@ public final class AnswersTest {
         totals(x, 0, 3, 15, 3, 9, 2);
         x.cell(0, 0, 5, 0, 0);
         totals(x, 0, 0, 0, MISSING, MISSING, 0);
+        x.cell(0, 0, 3, 9, 0);
+        totals(x, 0, 1, 9, 9, 9, 1);
+        x.clear(0);
+        x.drop(0, 0);
+        totals(x, 0, 3, 12, 0, 9, 3);
+        x.drop(0, 2);
+        x.drop(0, 2);
+        x.card(0, 5, -1, -1, -1);
+        totals(x, 0, 3, 17, 3, 9, 3);
         int[][] wrong = {{-1, 0}, {8, 0}, {0, -1}, {0, 5}, {4, 5}, {2, -1}};
         for (int[] each : wrong) {
             DUE.is("total of what is out of range", x.total(each[0], each[1]), INVALID);

@@ -148,6 +148,15 @@ public final class QuestionTest {
         DUE.is("its first card", x.row(0, 0), 1);
         DUE.is("its second card", x.row(0, 1), 0);
         DUE.is("w", x.row(0, 20), 7);
+        x.clear(0);
+        x.columns(1, 4);
+        x.card(1, 5, 6, 7, 8);
+        x.cell(1, 2, 9, 3, 0);
+        x.cell(1, 3, 8, 3, 0);
+        DUE.is("the last cell tells z", x.many(), 2);
+        DUE.is("z", x.row(0, 23), 8);
+        x.cell(1, 1, 8, 3, 0);
+        DUE.is("the cell ahead of it tells z", x.many(), 0);
     }
 
     private static void clear() {

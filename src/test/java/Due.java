@@ -1,5 +1,8 @@
 /** Compares answers with those that are due, prints the wrong ones, and ends the test. */
 final class Due {
+    /** One broken promise can make thousands of answers wrong: the first ones tell enough. */
+    private static final int MOST_TOLD = 200;
+
     private final String test;
     private String part = "";
     private int asked = 0;
@@ -17,17 +20,21 @@ final class Due {
     void is(String call, long got, long want) {
         asked++;
         if (got != want) {
-            wrong++;
-            System.out.println(test + ", " + part + ": " + call + " answered " + got
-                    + ", due is " + want);
+            tell(call + " answered " + got + ", due is " + want);
         }
     }
 
     void holds(String what, boolean is) {
         asked++;
         if (!is) {
-            wrong++;
-            System.out.println(test + ", " + part + ": " + what + " does not hold");
+            tell(what + " does not hold");
+        }
+    }
+
+    private void tell(String fault) {
+        wrong++;
+        if (wrong <= MOST_TOLD) {
+            System.out.println(test + ", " + part + ": " + fault);
         }
     }
 

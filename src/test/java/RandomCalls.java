@@ -90,7 +90,8 @@ final class RandomCalls {
             case "count":
                 return twin.call(name, chance.from(0, 13));
             case "type":
-                return twin.call(name, character(SIGNS.charAt(chance.below(SIGNS.length()))));
+                return twin.call(name, chance.below(4) == 0 ? chance.from(32, 126)
+                        : character(SIGNS.charAt(chance.below(SIGNS.length()))));
             case "read":
                 return read();
             case "text":
